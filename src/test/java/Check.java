@@ -1,7 +1,13 @@
+import java.lang.reflect.InvocationTargetException;
+import java.lang.reflect.Method;
+import java.util.Map;
+import java.util.TreeMap;
+
 /** Counts what is not as due; each test class ends with its end(). */
 final class Check {
     private static int wrong = 0;
     private static int done = 0;
+    private static String running = "";
 
     private Check() {
     }
@@ -10,11 +16,40 @@ final class Check {
         Object answer();
     }
 
+    /** Runs each method of a test class whose name begins with "promise", so that none can be left out. */
+    static void runPromises(Class<?> tests) {
+        Map<String, Method> found = new TreeMap<>();
+        for (Method method : tests.getDeclaredMethods()) {
+            if (method.getName().startsWith("promise")) {
+                found.put(method.getName(), method);
+            }
+        }
+        for (Map.Entry<String, Method> test : found.entrySet()) {
+            runOne(test.getKey(), test.getValue());
+        }
+        running = "";
+        due("there are tests in " + tests.getName(), found.isEmpty(), false);
+        end(tests.getName() + ", " + found.size() + " tests");
+    }
+
+    private static void runOne(String name, Method test) {
+        int before = done;
+        running = name + ": ";
+        try {
+            test.invoke(null);
+        } catch (InvocationTargetException thrown) {
+            due("ends by itself", thrown.getCause(), "no exception");
+        } catch (IllegalAccessException thrown) {
+            due("can be called", thrown, "no exception");
+        }
+        due("has checks", done > before, true);
+    }
+
     static void due(String what, Object got, Object want) {
         done++;
         if (!want.equals(got)) {
             wrong++;
-            System.out.println(what + " answered " + got + ", due is " + want);
+            System.out.println(running + what + " answered " + got + ", due is " + want);
         }
     }
 

@@ -1,17 +1,5 @@
-import java.util.NoSuchElementException;
-
 /** Each promise by itself: ordinary inputs, the edges that the document names, and wrong inputs. */
-public final class PromiseTest {
-    private static final Class<IndexOutOfBoundsException> INDEX = IndexOutOfBoundsException.class;
-    private static final Class<IllegalArgumentException> ARGUMENT = IllegalArgumentException.class;
-    private static final Class<IllegalStateException> STATE = IllegalStateException.class;
-    private static final Class<NoSuchElementException> ELEMENT = NoSuchElementException.class;
-    private static final Class<ArithmeticException> NUMBER = ArithmeticException.class;
-    private static final Class<UnsupportedOperationException> RING = UnsupportedOperationException.class;
-
-    private static final int LOW = Integer.MIN_VALUE;
-    private static final int HIGH = Integer.MAX_VALUE;
-
+public final class PromiseTest extends ArchiveTests {
     public static void main(String[] args) {
         newObject();
         setNormal();
@@ -30,7 +18,6 @@ public final class PromiseTest {
         notes();
         readBack();
         choose();
-        forgetting();
         lines();
         addLost();
         setParents();
@@ -44,56 +31,7 @@ public final class PromiseTest {
         meanDistance();
         isSound();
         firstQuestions();
-        throwingChangesNothing();
         Check.end("PromiseTest");
-    }
-
-    private static WordwardenArchive make(int[]... texts) {
-        WordwardenArchive a = new WordwardenArchive();
-        for (int[] text : texts) {
-            int witness = a.addWitness();
-            for (int word : text) {
-                a.addWord(witness, word);
-            }
-        }
-        return a;
-    }
-
-    private static int[] row(int... numbers) {
-        return numbers;
-    }
-
-    private static String text(WordwardenArchive a, int witness) {
-        StringBuilder text = new StringBuilder();
-        for (int index = 0; index < a.length(witness); index++) {
-            text.append(a.wordAt(witness, index)).append(' ');
-        }
-        return text.toString().trim();
-    }
-
-    /** The words of a witness in all columns, from the first one on. */
-    private static String cells(WordwardenArchive a, int witness) {
-        StringBuilder text = new StringBuilder();
-        for (int column = 0; column < a.columns(); column++) {
-            text.append(a.at(column, witness)).append(' ');
-        }
-        return text.toString().trim();
-    }
-
-    private static String lineRow(WordwardenArchive a) {
-        StringBuilder text = new StringBuilder();
-        for (int column = 0; column < a.columns(); column++) {
-            text.append(a.lineOf(column)).append(' ');
-        }
-        return text.toString().trim();
-    }
-
-    private static String thoughts(WordwardenArchive a, int column, int losts) {
-        StringBuilder text = new StringBuilder();
-        for (int lost = 6; lost < 6 + losts; lost++) {
-            text.append(a.thought(column, lost)).append(' ');
-        }
-        return text.toString().trim();
     }
 
     // Promise 1
@@ -468,32 +406,6 @@ public final class PromiseTest {
         Check.due("20 unchanged", a.choose(1, 0), 0);
     }
 
-    private interface Change {
-        void on(WordwardenArchive a);
-    }
-
-    private static int numberAfter(Change change) {
-        WordwardenArchive a = make(row(1, 2), row(1, 3), row(1, 2));
-        a.choose(1, 1);
-        change.on(a);
-        return a.choose(1, 1);
-    }
-
-    private static void forgetting() {
-        Check.due("20 forgotten by setNormal", numberAfter(a -> a.setNormal(50, 50)), 0);
-        Check.due("20 forgotten by setBase", numberAfter(a -> a.setBase(0)), 0);
-        Check.due("20 forgotten by addWitness", numberAfter(WordwardenArchive::addWitness), 0);
-        Check.due("20 forgotten by addWord", numberAfter(a -> a.addWord(2, 9)), 0);
-        Check.due("20 forgotten by correct", numberAfter(a -> a.correct(2, 0, -1)), 0);
-        Check.due("20 forgotten by use", numberAfter(a -> a.use(2, false)), 0);
-        Check.due("20 kept by setLine", numberAfter(a -> a.setLine(2)), 1);
-        Check.due("20 kept by addLost", numberAfter(WordwardenArchive::addLost), 1);
-        Check.due("20 kept by setParents", numberAfter(a -> a.setParents(0, 1, -1)), 1);
-        Check.due("20 kept by questions", numberAfter(a -> a.isSound()), 1);
-        Check.due("20 kept by a throw", numberAfter(a -> Check.outcome(() -> a.addWord(0, 0))), 1);
-        Check.due("20 kept by another throw", numberAfter(a -> Check.outcome(() -> a.setBase(3))), 1);
-    }
-
     // Promises 21 to 23
     private static void lines() {
         WordwardenArchive a = make(row(1, 2, 3, 4, 5, 6), row(1, 2, 3, 4, 5, 6, 7, 8));
@@ -790,23 +702,5 @@ public final class PromiseTest {
         Check.due("31 asked first", b.total(), 1L);
         Check.due("32 asked first", make(row(1), row(2)).variantShare(), 1.0f);
         Check.due("34 asked first", make(row(1), row(2)).isSound(), true);
-    }
-
-    private static void throwingChangesNothing() {
-        WordwardenArchive a = make(row(1, 2), row(1, 3));
-        a.addLost();
-        a.setParents(1, 6, -1);
-        a.choose(1, 1);
-        String before = Picture.of(a);
-        Check.outcome(() -> a.setNormal(3, 100));
-        Check.outcome(() -> a.addWord(0, 100));
-        Check.outcome(() -> a.correct(0, 0, -2));
-        Check.outcome(() -> a.use(2, true));
-        Check.outcome(() -> a.setBase(2));
-        Check.outcome(() -> a.choose(1, 2));
-        Check.outcome(() -> a.setLine(10));
-        Check.outcome(() -> a.setParents(6, 1, -1));
-        Check.outcome(() -> a.setParents(1, 0, 0));
-        Check.due("a call that throws changes nothing", Picture.of(a), before);
     }
 }
