@@ -128,6 +128,16 @@ public final class EditionBoundsTest extends ArchiveTests {
         }
     }
 
+    static void promise19BaseWithoutAWordAheadOfOneThatAllHave() {
+        WordwardenArchive a = make(row(1, 2, 3), row(1, 3), row(4, 1, 3));
+        for (int base = 0; base < 3; base++) {
+            a.setBase(base);
+            Check.due("with the word in the midst", textReadBack(a, 0), "1 2 3");
+            Check.due("without it", textReadBack(a, 1), "1 3");
+            Check.due("with a word ahead", textReadBack(a, 2), "4 1 3");
+        }
+    }
+
     static void promise19OneWitnessIsItsOwnBase() {
         Check.due("text", textReadBack(make(row(1, 2, 3, 4, 5, 6, 7, 8)), 0), "1 2 3 4 5 6 7 8");
         Check.due("two alike", textReadBack(alike(), 1), "1 2 3");

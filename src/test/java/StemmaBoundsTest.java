@@ -400,6 +400,18 @@ public final class StemmaBoundsTest extends ArchiveTests {
         Check.due("one of each reading beside it", a.isCoherent(0), true);
     }
 
+    static void promise29NotWhatWasTriedLast() {
+        WordwardenArchive a = sixReadings(1);
+        a.setParents(0, 6, -1);
+        Check.due("its score asked by trying all", a.scoreAnew(0), 0);
+        Check.due("the lost one has the first reading", a.isCoherent(0), true);
+        a.setParents(0, -1, -1);
+        a.setParents(5, 6, -1);
+        Check.due("the lost one has the last reading", a.isCoherent(0), true);
+        a.setParents(5, -1, -1);
+        Check.due("the lost one has the first reading, apart", a.isCoherent(0), false);
+    }
+
     static void promise29AllNineInALine() {
         WordwardenArchive a = make(row(1), row(1), row(1), row(1), row(1), row(1));
         for (int lost = 0; lost < 3; lost++) {
