@@ -4,7 +4,8 @@ import java.util.Random;
 
 /** Runs of up to 512 calls, drawn by fixed seeds; each answer is that of the reference. */
 public final class RandomRunsTest {
-    private static final int CALLS = 512;
+    static final int CALLS = 512;
+    static final int RUNS = 400;
     private static final int[] STRANGE = {-1, -2, 9, 48, 99, 100, Integer.MIN_VALUE, Integer.MAX_VALUE};
 
     private final Random random;
@@ -21,7 +22,7 @@ public final class RandomRunsTest {
     }
 
     public static void main(String[] args) {
-        for (long seed = 1; seed <= 400; seed++) {
+        for (long seed = 1; seed <= RUNS; seed++) {
             new RandomRunsTest(seed).run(seed);
         }
         Check.end("RandomRunsTest");
@@ -31,7 +32,8 @@ public final class RandomRunsTest {
         if (isRich) {
             fill();
         }
-        for (int call = told.size(); call < CALLS; call++) {
+        // A step makes one call or two, and no run may have more calls than an object is good for.
+        while (told.size() <= CALLS - 2) {
             int kind = random.nextInt(random.nextInt(3) == 0 ? 10 : 33);
             if (!step(kind)) {
                 System.out.println("seed " + seed + ": " + told.subList(Math.max(0, told.size() - 60), told.size()));
